@@ -482,13 +482,12 @@ public final class TrainingBook {
             return camp >= 0 && camp < camps;
         }
 
+        // Its row of KINDS is at rest yet: copyFrom takes the rows of GROUPS to come, too.
         private void addGroup(int fit, int tired) {
             if (groups < GROUPS) {
                 firstFits[groups] = fit;
                 firstTireds[groups] = tired;
                 groups++;
-                // A GROUP that undo() took back may have left its KINDS in this row.
-                fillKinds(groups - 1, 0, LAST_DAY, REST);
             }
         }
 

@@ -92,6 +92,10 @@ public final class DayTest {
     x.strike(0);
     Check.due("one is there yet", x.day(0, 4, 1), 98);
     Check.due("one isn't", x.day(0, 3, 1), 33);
+    x.camp(0, 0);
+    Check.due("day 0", x.day(0, 0, 1), 98);
+    x.undo();
+    Check.due("day 0, undone", x.day(0, 0, 1), 33);
   }
 
   private static void allowed() {
@@ -155,6 +159,9 @@ public final class DayTest {
     TrainingBook x = new TrainingBook();
     x.group(0, 0);
     x.plan(0, 0, 69, 2);
+    Check.due("acute on 0", x.day(0, 0, 6), 60);
+    Check.due("acute on 6", x.day(0, 6, 6), 420);
+    Check.due("chronic on 0", x.day(0, 0, 7), 60);
     Check.due("acute", x.day(0, 27, 6), 420);
     Check.due("chronic", x.day(0, 27, 7), 1680);
     Check.due("chronic later on", x.day(0, 69, 7), 1680);

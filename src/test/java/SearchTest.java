@@ -71,6 +71,8 @@ public final class SearchTest {
     for (int d = 1; d < 70; d++) if (x.form(0, d) > x.form(0, found)) found = d;
     Check.due("peak", x.peak(0, 0, 69), found);
     Check.due("falling behind it", x.peak(0, found + 1, 69), found + 1);
+    Check.due("rising up to it", x.peak(0, 0, found), found);
+    Check.due("rising by one", x.peak(0, found - 1, found), found);
     TrainingBook none = new TrainingBook();
     none.group(0, 0);
     Check.due("of several the first", none.peak(0, 7, 69), 7);
@@ -87,6 +89,7 @@ public final class SearchTest {
     x.plan(0, 0, 69, 3);
     x.set(4, 400);
     Check.due("not above d", x.taper(0, 5), 5);
+    Check.due("one of one", x.taper(0, 1), 1);
     x.set(2, 1);
     x.set(3, 9);
     x.set(1, 99);
@@ -135,6 +138,10 @@ public final class SearchTest {
     x.set(2, 9);
     x.set(3, 1);
     Check.due("races", x.best(0, 9, 4, 0), 5555);
+    Check.due("on the last day nothing is safe", x.best(0, 69, 4, 0), 0);
+    x.set(4, 400);
+    Check.due("on the last day all is safe", x.best(0, 69, 4, 0), 5555);
+    x.set(4, 150);
     x.plan(0, 5, 8, 5);
     Check.due("their form", x.best(0, 9, 4, 1), x.form(0, 9));
     x.undo();
@@ -230,6 +237,7 @@ public final class SearchTest {
     TrainingBook x = new TrainingBook();
     x.group(0, 0);
     Check.due("ahead of 20", x.safe(0, 19), 300);
+    Check.due("on the last day", x.safe(0, 69), 0);
     Check.due("none ahead: nothing", x.safe(0, 20), 0);
     x.plan(0, 0, 69, 2);
     Check.due("not above 300", x.safe(0, 27), 300);
@@ -279,6 +287,8 @@ public final class SearchTest {
     Check.due("within", x.row(0, 4, 11), 2);
     Check.due("one", x.row(0, 69, 69), 1);
     Check.due("none", x.row(0, 6, 9), 0);
+    x.load(1, 1);
+    Check.due("loads of 1", x.row(0, 0, 69), 5);
     x.load(1, 0);
     Check.due("loads of 0", x.row(0, 0, 69), 0);
     x.load(1, 100);
@@ -311,6 +321,8 @@ public final class SearchTest {
     Check.due("by how much more", x.form(0, 9) - form, by);
     Check.due("it is less back", x.swap(0, 9, 2, 4), -by);
     Check.due("d on day 69", x.swap(0, 69, 69, 4) == 0, false);
+    x.plan(0, 0, 0, 3);
+    Check.due("day 0 becomes rest", x.swap(0, 0, 0, 1), 900);
   }
 
   private static void withouts() {
@@ -327,6 +339,8 @@ public final class SearchTest {
     Check.due("by how much more", x.form(0, 9) - form, by);
     Check.due("of the other group", x.without(1, 9, 0), 0);
     Check.due("now alone", x.without(0, 6, 0) > 0, true);
+    x.camp(0, 0);
+    Check.due("on day 0", x.without(0, 0, 1), 450);
   }
 
   private static void aheads() {

@@ -4,6 +4,7 @@ public final class TextTest {
     tape();
     statements();
     tokens();
+    cutTokens();
     items();
     cantStand();
     cantBe();
@@ -87,12 +88,34 @@ public final class TextTest {
     Check.faulty(x, "Group 1 1;", 1, 0);
     Check.faulty(x, "gro up 1 1;", 1, 0);
     Check.faulty(x, "plan 0 0 easyeasy;", 1, 9);
+    Check.faulty(x, "plan 0 0 easya;", 1, 9);
+    Check.faulty(x, "plan 0 0 easyz;", 1, 9);
+    Check.faulty(x, "plan 0 0 zeasy;", 1, 9);
+    Check.faulty(x, "plan 0 0 oasy;", 1, 9);
+    Check.faulty(x, "plan 0 0 eass;", 1, 9);
+    Check.faulty(x, "plan 0 0 eas;", 1, 9);
+    Check.faulty(x, "crop 1 1;", 1, 0);
+    Check.faulty(x, "group 1 9/;", 1, 9);
+    Check.faulty(x, "group 1 9:;", 1, 9);
     Check.faulty(x, "plan 0 0 easy2again(easy);", 1, 14);
     Check.faulty(x, "group 1\t1;", 1, 7);
     Check.faulty(x, "group 1\r1;", 1, 7);
     Check.faulty(x, "group -1 1;", 1, 6);
     Check.faulty(x, "group 1 1" + (char) 187 + ";", 1, 9);
     Check.faulty(x, "group 1 1" + (char) 0, 1, 9);
+  }
+
+  // What stood behind the end of the tape is no part of its last TOKEN.
+  private static void cutTokens() {
+    TrainingBook x = new TrainingBook();
+    Check.put(x, "group 1 99999 easyeasy");
+    Check.due("end", x.end(12), true);
+    Check.due("tell", x.tell(), -1);
+    Check.due("fault", x.fault(), 1 + 8 * 12);
+    Check.put(x, "load easyx");
+    Check.due("end", x.end(9), true);
+    Check.due("tell", x.tell(), -1);
+    Check.due("fault", x.fault(), 1 + 8 * 9);
   }
 
   private static void items() {
@@ -112,6 +135,8 @@ public final class TextTest {
     kinds(x, 0, 0, d + d + "50");
     Check.told(x, "plan 0 0 again 1(easy) again 1(again 1(hard) again 1(hard));", 1);
     kinds(x, 0, 0, "133");
+    Check.told(x, "plan 0 0 4 hard; plan 0 0 again 2(easy);", 2);
+    kinds(x, 0, 0, "1133");
     Check.told(x, "plan 0 69 again 1(again 1(1 race));", 1);
     kinds(x, 0, 69, "5");
     Check.told(x, "plan 0 0 2 easy; plan 0 1 hard;", 2);
@@ -149,7 +174,12 @@ public final class TextTest {
     Check.faulty(x, "plan 0 0 2;", 1, 10);
     Check.faulty(x, "plan 0 0 2 2 easy;", 1, 11);
     Check.faulty(x, "plan 0 0 2 again 2(easy);", 1, 11);
-    Check.faulty(x, "plan 0 0 plan;", 1, 9);
+    String[] words = {"group", "load", "camp", "set", "plan", "blue"};
+    for (String word : words) {
+      Check.faulty(x, "plan 0 0 " + word + ";", 1, 9);
+      Check.faulty(x, "plan 0 0 2 " + word + ";", 1, 11);
+      Check.faulty(x, "load " + word + " 5;", 1, 5);
+    }
     Check.faulty(x, "plan 0 0 (easy);", 1, 9);
     Check.faulty(x, "plan 0 0 easy);", 1, 13);
     Check.faulty(x, "plan 0 0 again(easy);", 1, 14);

@@ -138,6 +138,12 @@ public final class ToldTest {
     Check.due("undo of strike(1)", x.undo(), 3);
     Check.due("it stands between", x.camped(1, true), 5);
     Check.due("and the other behind it", x.camped(2, true), 9);
+    x.camp(60, 69);
+    Check.due("strike(0) of four", x.strike(0), 3);
+    Check.due("the first of three", x.camped(0, false), 3);
+    Check.due("the last of three", x.camped(2, true), 69);
+    Check.due("strike(2) of three", x.strike(2), 2);
+    Check.due("the last of two", x.camped(1, true), 9);
   }
 
   private static void plans() {
