@@ -141,6 +141,7 @@ public final class SearchTest {
     Check.due("on the last day nothing is safe", x.best(0, 69, 4, 0), 0);
     x.set(4, 400);
     Check.due("on the last day all is safe", x.best(0, 69, 4, 0), 5555);
+    Check.due("on the last day by none", x.best(0, 69, 0, 1), x.form(0, 69));
     x.set(4, 150);
     x.plan(0, 5, 8, 5);
     Check.due("their form", x.best(0, 9, 4, 1), x.form(0, 9));

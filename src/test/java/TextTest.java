@@ -191,6 +191,9 @@ public final class TextTest {
     Check.faulty(x, "plan 0 0 again 2(easy", 1, 21);
     Check.faulty(x, "plan 0 0 easy again 2(again 2());", 1, 30);
     Check.faulty(x, "plan 0 0 again 2((easy));", 1, 17);
+    Check.faulty(x, "plan 0 0 again 2)easy);", 1, 16);
+    Check.faulty(x, "plan 0 0 again 2(easy(;", 1, 21);
+    Check.faulty(x, "plan 0 0 again 2;easy);", 1, 16);
     Check.faulty(x, "plan 0 0 again 2(easy)) ;", 1, 22);
   }
 
