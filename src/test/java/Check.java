@@ -6,6 +6,7 @@ import java.util.NoSuchElementException;
 final class Check {
   private static int checked = 0;
   private static int wrong = 0;
+  private static String sentence = "";
 
   private Check() { }
 
@@ -13,8 +14,21 @@ final class Check {
     checked++;
     if (got != want) {
       wrong++;
-      if (wrong <= 40) System.out.println(call + " answered " + got + ", due is " + want);
+      if (wrong <= 40) System.out.println(sentence + call + " answered " + got + ", due is " + want);
     }
+  }
+
+  /** The test of one sentence (or part of one) of the document, which is quoted; it must look at an answer at least. */
+  static void edge(String quoted, Runnable test) {
+    int before = checked;
+    sentence = "\"" + quoted + "\": ";
+    try {
+      test.run();
+      due("its test looks at an answer", checked > before, true);
+    } catch (RuntimeException e) {
+      due("a call threw " + e + ", so that", 1, 0);
+    }
+    sentence = "";
   }
 
   static void due(String call, boolean got, boolean want) {
