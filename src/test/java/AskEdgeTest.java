@@ -147,6 +147,10 @@ public final class AskEdgeTest {
       Check.due("day 69 alone", x.peak(0, 69, 69), 69);
       x.plan(0, 0, 68, 5);
       Check.due("on the last", x.peak(0, 60, 69), 69);
+      x.plan(0, 0, 68, 0);
+      x.plan(0, 8, 8, 5);
+      x.plan(0, 10, 10, 5);
+      Check.due("in the midst", x.peak(0, 8, 10), 9);
       TrainingBook fresh = new TrainingBook();
       fresh.group(9999, 0);
       Check.due("on the first", fresh.peak(0, 5, 69), 5);

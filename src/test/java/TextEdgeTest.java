@@ -87,6 +87,7 @@ public final class TextEdgeTest {
       told(" ".repeat(392) + "set 0 9;", 1);
       faulty("set 0 9;".repeat(49) + "set 0 9 ", 1, 400);
       faulty(" ".repeat(399) + ";", 1, 399);
+      faulty(";".repeat(400), 1, 0);
       TrainingBook x = alone();
       Check.put(x, " ".repeat(400));
       Check.due("a 401st", x.feed(0, 0, 0, 0, 0), -1);
@@ -101,6 +102,7 @@ public final class TextEdgeTest {
       faulty("set 0 9;;", 1, 8);
       faulty("set 0 9 set 0 9;", 1, 8);
     });
+    Check.edge("goes on from what there is", TextEdgeTest::openAgains);
     Check.edge("A TEXT goes on from what there is", () -> {
       TrainingBook x = alone();
       x.camp(3, 4);
@@ -114,6 +116,16 @@ public final class TextEdgeTest {
       Check.faulty(x, "group 1 1;", 3, 0);
       Check.faulty(x, "camp 1 1;", 3, 0);
     });
+  }
+
+  // What a text with a fault left open is nothing to the next.
+  private static void openAgains() {
+    TrainingBook x = alone();
+    Check.faulty(x, "plan 0 3 again 2(again 3(again 4(again 5(easy;", 1, 45);
+    Check.faulty(x, "plan 0 0 easy);", 1, 13);
+    Check.told(x, "plan 0 0 easy;", 1);
+    Check.told(x, "plan 0 0 again 1(again 1(again 1(again 1(easy))));", 1);
+    Check.due("day 1 is at rest", x.day(0, 1, 0), 0);
   }
 
   private static void statements() {
@@ -199,6 +211,9 @@ public final class TextEdgeTest {
       faulty("plan 0 0 restz;", 1, 9);
       faulty("plan 0 0 reste;", 1, 9);
       faulty("plan 0 0 aeasy;", 1, 9);
+      faulty("plan 0 0 oasy;", 1, 9);
+      faulty("plan 0 0 easi;", 1, 9);
+      faulty("plan 0 0 eas;", 1, 9);
       faulty("plan 0 0 res t;", 1, 9);
       faulty("plan 0 0 again2(easyrest);", 1, 16);
       faulty("plan 0 0 easY;", 1, 9);
